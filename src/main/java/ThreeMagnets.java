@@ -1123,7 +1123,8 @@ public final class ThreeMagnets {
             Plate plate = state.plate;
             for (int m = 0; plate.has(m) && m < MOST_MAGNETS; m++) {
                 int far = plate.far(m, bob.x, bob.y);
-                int force = pullOf(m, far, bob.ticks);
+                int full = fullPull(plate.strengths[m], far, bob.ticks);
+                int force = pullByKind(plate.kinds[m], full, far, bob.ticks);
                 int by = PARTS * (far + 1);
                 bob.u += cut((PARTS * plate.xs[m] - bob.x) * force, by) / f;
                 bob.v += cut((PARTS * plate.ys[m] - bob.y) * force, by) / f;
@@ -1155,11 +1156,15 @@ public final class ThreeMagnets {
             if (!state.plate.has(magnet)) {
                 return 0;
             }
-            int kind = state.plate.kinds[magnet];
+            int full = fullPull(state.plate.strengths[magnet], far, ticks);
+            return pullByKind(state.plate.kinds[magnet], full, far, ticks);
+        }
+
+        /** What a kind makes of the pull that a plain magnet would have there. */
+        private static int pullByKind(int kind, int full, int far, int ticks) {
             if ((kind == BLINKING || kind == SHY) && ticks % 2 != 0 || kind == FAINT && far > FAINT_REACH) {
                 return 0;
             }
-            int full = fullPull(state.plate.strengths[magnet], far, ticks);
             switch (kind) {
                 case WEAK:
                 case FAINT:
