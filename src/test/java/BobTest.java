@@ -223,6 +223,8 @@ public final class BobTest {
         due.is("18 doubt", x.doubt(0, 0), 1);
         due.is("18 no doubt", x.doubt(1, 0), 0);
         due.is("18 both blind", x.doubt(50, 50), 0);
+        Due.text(x, 0, "3");
+        due.is("18 twice as great, not more", x.doubt(0, 0), 0);
         Due.text(x, 0, "4");
         due.is("18 no doubt", x.doubt(0, 0), 0);
         x.rule(5, 2);

@@ -243,6 +243,8 @@ public final class PictureTest {
         isFair(x, 5, 16);
         due.is("27 beyond", x.fair(2), Due.BEYOND);
         due.is("27 beyond", x.fair(-1), Due.BEYOND);
+        x.picture(60, 60, 22, 1);
+        isFair(x, 0, 1);
         x.takeOff();
         x.takeOff();
         x.takeOff();

@@ -100,6 +100,13 @@ public final class PlateTest {
             y.untell(0);
             due.is("3 pull of kind at odd ticks " + kind, y.magnetIs(0, 5), odd[kind]);
         }
+        ThreeMagnets z = Worlds.still();
+        z.magnet(3, 10, 0, 0);
+        Due.text(z, 0, "n+9");
+        for (int ticks = 0; ticks < 6; ticks++) {
+            due.is("3 blinking at " + ticks, z.magnetIs(0, 5), ticks % 2 == 0 ? ticks + 9 : 0);
+            z.tick(1);
+        }
         x.magnet(4, 20, 0, 99);
         x.magnet(4, 21, 0, 99);
         due.is("3 faint near", x.magnetIs(0, 5), 99 * 9 / 23 / 2);
