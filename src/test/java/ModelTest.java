@@ -14,6 +14,7 @@ public final class ModelTest {
     private final ThreeMagnets real = new ThreeMagnets();
     private final PlainModel plain = new PlainModel();
     private String where;
+    private int made = 0;
 
     private ModelTest(Due due, int run) {
         this.due = due;
@@ -25,8 +26,9 @@ public final class ModelTest {
         Due due = new Due();
         for (int run = 0; run < 1500 && due.wrong() < 20; run++) {
             ModelTest test = new ModelTest(due, run);
-            int calls = run % 10 == 0 ? 512 : 90;
-            for (int k = 0; k < calls && due.wrong() < 20; k++) {
+            // Nothing is promised behind the 512th call, and one turn makes up to 16.
+            int most = run % 10 == 0 ? 512 - 16 : 90;
+            for (int k = 0; test.made <= most && due.wrong() < 20; k++) {
                 test.call(k);
             }
         }
@@ -66,6 +68,7 @@ public final class ModelTest {
     }
 
     private void is(String call, int got, int want) {
+        made++;
         due.is(where + ": " + call, got, want);
     }
 
@@ -375,6 +378,7 @@ public final class ModelTest {
         for (int i = 0; i < n; i++) {
             int colour = Math.max(0, real.cell(i, j));
             plain.cell(i, j);
+            made++;
             is("tell " + colour, real.tell(colour), plain.tell(colour));
         }
         is("check " + j, real.check(j), plain.check(j));
