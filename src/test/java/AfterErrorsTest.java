@@ -125,6 +125,13 @@ public final class AfterErrorsTest {
             int many = n;
             is("feed, full", Worlds::full, Due.FULL, x -> x.feed(0x3939393939393939L, many));
         }
+        World nearlyFull = () -> {
+            ThreeMagnets x = Worlds.rich();
+            Due.feed(x, "+1".repeat(24));
+            return x;
+        };
+        is("feed, one more than there is room for", nearlyFull, Due.FULL, x -> x.feed(0x312b312b312b312bL, 8));
+        due.is("feed, as many as there is room for", nearlyFull.made().feed(0x2b312b312b312bL, 7), 60);
         for (int use : new int[] {-1, 3, LEAST, MOST}) {
             is("text " + use, Worlds::rich, Due.BEYOND, x -> x.text(use));
             is("untell " + use, Worlds::rich, Due.BEYOND, x -> x.untell(use));

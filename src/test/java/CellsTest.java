@@ -1,3 +1,5 @@
+import java.util.Arrays;
+
 /** Section 3 of the document's Terms, sentence by sentence, at its edges: pictures, throws, doubt, holds. */
 public final class CellsTest {
     private static final Due due = new Due();
@@ -18,6 +20,7 @@ public final class CellsTest {
         turnedSizes();
         fairParts();
         wantedOfLikeOnes();
+        wantedStays();
         draws();
         throwsAreHeld();
         throwsByAll();
@@ -262,7 +265,7 @@ public final class CellsTest {
         for (int w = 2; w <= 6; w++) {
             int[] corners = {0, 0, w - 1, 0, w - 1, w - 1, 0, w - 1};
             for (int magnets = 0; magnets <= 4; magnets++) {
-                ThreeMagnets x = Worlds.dots(java.util.Arrays.copyOf(corners, 2 * magnets));
+                ThreeMagnets x = Worlds.dots(Arrays.copyOf(corners, 2 * magnets));
                 x.picture(0, 0, 11 * w, 1);
                 // Two by two cells at all corners but one: the blind one is a colour like the others.
                 boolean alike = magnets == 0 || magnets == 4 || w == 2 && magnets == 3;
@@ -332,6 +335,27 @@ public final class CellsTest {
         Due.text(x, 2, "256*256*256*128-(x=3)*(y=1)");
         due.is("the greatest number there is", x.want(0), 31);
         due.is("the greatest number there is", x.want(1), Integer.MAX_VALUE);
+    }
+
+    /** Colours, lengths and edges of a WANT are the picture's; they stay when all is otherwise since. */
+    private static void wantedStays() {
+        ThreeMagnets x = Worlds.dots(1, 1);
+        x.picture(0, 0, 22, 1);
+        x.takeOff();
+        x.rule(2, 7);
+        x.rule(5, 2);
+        Due.text(x, 2, "(c=0)*100+l");
+        due.is("a magnet that is gone", x.want(0), 11);
+        due.is("a magnet that is gone", x.want(1), 100);
+        Due.text(x, 2, "e*100+l");
+        due.is("an edge at a magnet that is gone", x.want(0), 10);
+        due.is("an edge at a magnet that is gone", x.want(1), 160);
+        due.is("its cell", x.cell(1, 1), 0);
+        due.is("its share", x.share(0), 1);
+        due.is("the edges", x.seen(0), 3);
+        due.is("the lengths", x.seen(3), 180);
+        due.is("the cell around which most are of it", x.sure(0, 0, 0), 11);
+        due.is("turned", x.turned(1), 0);
     }
 
     private static int next(int z) {

@@ -19,6 +19,7 @@ public final class KeptTest {
         sheetBits();
         sheetAnew();
         movesOfEachWidth();
+        movesOverThemselves();
         movesOfNone();
         magnetsOfSheets();
         magnetsUpToSix();
@@ -243,10 +244,37 @@ public final class KeptTest {
                 due.is("x", x.magnetIs(m, 1), 4 * m - 11);
                 due.is("y", x.magnetIs(m, 2), 4 * m - 10);
                 due.is("strength", x.magnetIs(m, 3), 4 * m + 3);
-                x.count(0);
             }
             due.is("the last one", x.move(2, 23, 3, 23, 1), 1);
             due.is("to the same place", x.move(2, 5, 2, 5, 19), 19);
+        }
+    }
+
+    /** The numbers i, i + 1, .. of a sheet over which n of them are moved, told by magnets. */
+    private static void over(int bits, int from, int to, int n) {
+        ThreeMagnets x = new ThreeMagnets();
+        x.sheet(0, bits, 24);
+        int[] want = new int[24];
+        for (int i = 0; i < 24; i++) {
+            x.put(0, i, i % 7);
+            want[i] = i % 7;
+        }
+        due.is("moved", x.move(0, from, 0, to, n), n);
+        System.arraycopy(want.clone(), from, want, to, n);
+        due.is("six", x.magnets(0), 6);
+        for (int i = 0; i < 24; i++) {
+            due.is(n + " from " + from + " to " + to + ", number " + i, x.magnetIs(i / 4, i % 4), want[i]);
+        }
+    }
+
+    private static void movesOverThemselves() {
+        for (int bits = 8; bits <= 32; bits *= 2) {
+            over(bits, 0, 1, 23);
+            over(bits, 1, 0, 23);
+            over(bits, 3, 8, 10);
+            over(bits, 8, 3, 10);
+            over(bits, 0, 0, 24);
+            over(bits, 23, 0, 1);
         }
     }
 
@@ -314,8 +342,13 @@ public final class KeptTest {
             x -> x.let(50, 60), x -> x.push(1, 2), x -> x.tick(3),
             x -> x.picture(-30, -20, 43, 14), x -> x.picture(-30, -20, 42, 15), x -> x.picture(-29, -20, 43, 15), x -> x.picture(0, 0, 66, 9),
             x -> x.throwsOf(0, 0, 9, 9), x -> x.seed(6), x -> x.tell(3), x -> x.check(0),
-            x -> Due.text(x, 0, "9"), x -> Due.text(x, 1, "9"), x -> Due.text(x, 2, "9"),
+            x -> Due.text(x, 0, "9"), x -> Due.text(x, 1, "9"), x -> Due.text(x, 2, "9"), KeptTest::otherStrength,
         };
+    }
+
+    private static void otherStrength(ThreeMagnets x) {
+        x.takeOff();
+        x.magnet(4, 0, -15, 34);
     }
 
     /** What was changed since is as it was; what is kept does not change with it, however often it is restored. */

@@ -638,6 +638,18 @@ public final class TermsTest {
         due.is("rubbed by " + text, x.bob(3), wantV);
     }
 
+    /** By as many hundredths as the nearest of two magnets is far from a bob that starts at that place. */
+    private static void rubbedByFar(int fromX, int fromY, int far) {
+        ThreeMagnets x = Worlds.still();
+        x.magnet(0, 10, 5, 0);
+        x.magnet(6, 5, 10, 0);
+        x.let(fromX, fromY);
+        Due.text(x, 1, "r");
+        x.push(100, -100);
+        x.tick(1);
+        isAt("rubbed by " + far, x, 16 * fromX + 100 - far, 16 * fromY - 100 + far, 100 - far, far - 100);
+    }
+
     private static void rubbing() {
         rubbed("98", 1000, -1000, 20, -20);
         rubbed("99", 1000, -1000, 10, -10);
@@ -650,6 +662,10 @@ public final class TermsTest {
         rubbed("v=1999", 1000, -999, 990, -990);
         rubbed("(r=13)*50", 100, 0, 50, 0);
         rubbed("(n=0)*50", 100, 0, 50, 0);
+        rubbedByFar(30, 5, 20);
+        rubbedByFar(5, 30, 20);
+        rubbedByFar(-7, 40, 42);
+        rubbedByFar(40, -7, 42);
         ThreeMagnets x = Worlds.still();
         x.rule(0, 99);
         x.let(100, 0);
