@@ -20,6 +20,7 @@ public final class KeptTest {
         sheetAnew();
         movesOfEachWidth();
         movesOverThemselves();
+        movesBetweenUnlikeSizes();
         movesOfNone();
         magnetsOfSheets();
         magnetsUpToSix();
@@ -275,6 +276,38 @@ public final class KeptTest {
             over(bits, 8, 3, 10);
             over(bits, 0, 0, 24);
             over(bits, 23, 0, 1);
+        }
+    }
+
+    /** Four numbers from each place of a long sheet to each place of a short one, and back. */
+    private static void movesBetweenUnlikeSizes() {
+        for (int bits = 8; bits <= 32; bits *= 2) {
+            for (int i = 0; i <= 20; i++) {
+                for (int j = 0; j <= 2; j++) {
+                    longAndShort(bits, i, j);
+                }
+            }
+        }
+    }
+
+    private static void longAndShort(int bits, int i, int j) {
+        ThreeMagnets x = new ThreeMagnets();
+        x.sheet(0, bits, 24);
+        x.sheet(3, bits, 6);
+        x.sheet(1, bits, 4);
+        for (int k = 0; k < 24; k++) {
+            x.put(0, k, (k + 3) % 7);
+        }
+        String what = bits + " bits, from " + i + " by " + j;
+        due.is(what, x.move(0, i, 3, j, 4), 4);
+        due.is(what + ", beyond the short one", x.move(0, i, 3, 3, 4), Due.BEYOND);
+        due.is(what + ", beyond the long one", x.move(0, 21, 3, j, 4), Due.BEYOND);
+        x.sheet(0, bits, 24);
+        due.is(what + ", back", x.move(3, j, 0, i, 4), 4);
+        due.is(what + ", and on", x.move(0, i, 1, 0, 4), 4);
+        due.is(what + ", a magnet", x.magnets(1), 1);
+        for (int k = 0; k < 4; k++) {
+            due.is(what + ", number " + k, x.magnetIs(0, k), (i + k + 3) % 7);
         }
     }
 
